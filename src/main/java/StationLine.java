@@ -28,6 +28,8 @@ public final class StationLine {
     private static final int APART = 2;
 
     private static final int RULES = 4;
+    /** Each move lessens the squares, so that they end long before. */
+    private static final int MOST_MOVES = 1000000;
     private static final int SHEETS = 4;
     private static final int SORTS = 3;
     private static final int SHEET_PLACES = 40;
@@ -269,7 +271,14 @@ public final class StationLine {
     }
 
     public int better() {
-        return hand.firstClash() < 0 ? hand.improve() : NONE;
+        if (hand.firstClash() >= 0) {
+            return NONE;
+        }
+        int moves = 0;
+        while (moves < MOST_MOVES && hand.moveOnce()) {
+            moves++;
+        }
+        return moves;
     }
 
     // ---- sheets
@@ -533,7 +542,7 @@ public final class StationLine {
         }
 
         int room() {
-            return beat * roomOfOneBeat();
+            return kind == MEAN ? beat * shareSum() : beat;
         }
 
         /** What a time for the make counts in a load; 0 for a make that has no say. */
@@ -680,9 +689,6 @@ public final class StationLine {
 
     /** Stations of the tasks of a bench, 0 for none. */
     static final class Putting {
-        /** Each move lessens the squares, so they end long before; the bound is for the eye. */
-        private static final int MOST_MOVES = 1000000;
-
         private final Bench bench;
         final int[] row = new int[TASKS];
 
@@ -765,15 +771,8 @@ public final class StationLine {
             return -1;
         }
 
-        int improve() {
-            int moves = 0;
-            while (moves < MOST_MOVES && improveOnce()) {
-                moves++;
-            }
-            return moves;
-        }
-
-        private boolean improveOnce() {
+        /** Makes the first move that betters the putting, if there is one. */
+        boolean moveOnce() {
             int length = greatest();
             for (int t = 0; t < bench.size; t++) {
                 for (int k = 1; k <= length; k++) {
@@ -871,6 +870,7 @@ public final class StationLine {
     static final class Search {
         private static final int NEVER = -1;
         private static final int TOO_FAR = STATIONS + 1;
+        private static final long ABOVE_ALL_COSTS = 1L << 40;
 
         private final Bench bench;
         private int all = 0;
@@ -955,21 +955,15 @@ public final class StationLine {
         private int firstSet(int k, int done, boolean even) {
             for (int set = 0; set <= all; set++) {
                 int next = done | set;
-                if ((set & done) == 0 && canStand(set, k) && k <= latest[next]
-                        && (!even || squareOf(set) + costs[k][next] == costs[k - 1][done])) {
+                if ((set & done) != 0 || k > latest[next] || places[set] != 0 && places[set] != k) {
+                    continue;
+                }
+                long load = loads[set];
+                if (!even || load * load + costs[k][next] == costs[k - 1][done]) {
                     return set;
                 }
             }
             return 0;
-        }
-
-        private boolean canStand(int set, int k) {
-            return places[set] == 0 || places[set] == k;
-        }
-
-        private long squareOf(int set) {
-            long load = loads[set];
-            return load * load;
         }
 
         private void prepare() {
@@ -1110,19 +1104,22 @@ public final class StationLine {
         }
 
         private void weighState(int k, int state) {
-            long[] nextCosts = costs[k + 1];
-            long[] nextWays = ways[(k + 1) & 1];
-            long cost = Long.MAX_VALUE;
+            int station = k + 1;
+            long[] nextCosts = costs[station];
+            long[] nextWays = ways[station & 1];
+            long cost = ABOVE_ALL_COSTS;
             long sum = 0;
-            if (k + 1 <= latest[state]) {
+            if (station <= latest[state]) {
                 cost = nextCosts[state];
                 sum = nextWays[state];
             }
             int rest = all & ~state;
             for (int set = rest; set > 0; set = (set - 1) & rest) {
                 int next = state | set;
-                if (k + 1 <= latest[next] && canStand(set, k + 1)) {
-                    cost = Math.min(cost, squareOf(set) + nextCosts[next]);
+                int place = places[set];
+                if (station <= latest[next] && (place == 0 || place == station)) {
+                    long load = loads[set];
+                    cost = Math.min(cost, load * load + nextCosts[next]);
                     sum += nextWays[next];
                 }
             }
