@@ -142,7 +142,7 @@ public final class RulesTest {
         long id = Thread.currentThread().getId();
         threads.getThreadAllocatedBytes(id);
         long before = threads.getThreadAllocatedBytes(id);
-        heavyCalls(x, 40);
+        heavyCalls(x, 36);
         long made = threads.getThreadAllocatedBytes(id) - before;
         must(made < 4096, "calls made " + made + " bytes of objects");
     }
