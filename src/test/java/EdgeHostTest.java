@@ -380,6 +380,8 @@ public final class EdgeHostTest {
         StationLine x = Edges.tenOf(3);
         Edges.chained(x);
         x.time(9, 2, 100);
+        x.time(0, 0, 1);
+        x.time(0, 1, 2);
         x.pair(0, 9, 2);
         x.pair(0, 1, 1);
         x.hold(9, 10);
@@ -392,6 +394,8 @@ public final class EdgeHostTest {
             edges.due("free", x.free(8, 9), 1);
             edges.due("ahead", x.ahead(9, 0), 1);
             edges.due("time", x.time(9, 2, 1), 100);
+            edges.due("time", x.time(0, 0, 50), 1);
+            edges.due("time", x.time(0, 1, 50), 2);
             edges.due("pair", x.pair(9, 0, 0), 2);
             edges.due("pair", x.pair(1, 0, 2), 1);
             edges.due("hold", x.hold(9, 0), 10);

@@ -323,6 +323,18 @@ public final class EdgeSearchTest {
         StationLine y = Edges.with(1);
         y.beat(1);
         edges.due("one task", y.evenest(), 1);
+        edges.of("22: stations without tasks add nothing");
+        StationLine z = Edges.with(5, 6);
+        z.hold(1, 10);
+        edges.due("25 + 36", z.evenest(), 61);
+        z.beat(11);
+        edges.due("apart is evener", z.evenest(), 61);
+        z.pair(0, 1, 1);
+        edges.due("11 at 10", z.evenest(), 121);
+        z.hold(0, 1);
+        edges.due("TOGETHER, HELD at two", z.evenest(), -1);
+        z.pair(0, 1, 0);
+        edges.due("at 1 and at 10", z.evenest(), 61);
     }
 
     private static void leastBeatFromOneToThousand() {

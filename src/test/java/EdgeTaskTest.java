@@ -10,6 +10,7 @@ public final class EdgeTaskTest {
         aheadOfNineOthers();
         ringsFromOneToTen();
         fewestRing();
+        fewestRingOfMany();
         ringAfterFree();
         freeOpensTheWay();
         pairsAreOneOfThree();
@@ -121,6 +122,15 @@ public final class EdgeTaskTest {
             edges.due("LEADING " + t, x.of(t, 4), (1 << t) - 1);
             edges.due("FOLLOWING " + t, x.of(t, 5), 1023 - (2 << t) + 1);
         }
+        edges.of("5: LEADING and FOLLOWING, against the numbers");
+        StationLine y = Edges.tenOf(1);
+        for (int t = 9; t > 0; t--) {
+            y.ahead(t, t - 1);
+        }
+        for (int t = 0; t < 10; t++) {
+            edges.due("LEADING " + t, y.of(t, 4), 1023 - (2 << t) + 1);
+            edges.due("FOLLOWING " + t, y.of(t, 5), (1 << t) - 1);
+        }
         edges.of("5: BAD before RING");
         edges.due("no such task with itself", x.ahead(10, 10), Edges.BAD);
         edges.due("no such task with itself", x.ahead(-1, -1), Edges.BAD);
@@ -171,6 +181,45 @@ public final class EdgeTaskTest {
         edges.due("ring", x.ahead(5, 0), Edges.RING);
         edges.due("k 2", x.ring(2), 9);
         edges.due("k 3", x.ring(3), Edges.NONE);
+    }
+
+    private static void fewestRingOfMany() {
+        edges.of("7: the lesser at the first that differs, not the lesser at the last");
+        StationLine x = Edges.tenOf(1);
+        int[][] links = {{9, 0}, {9, 1}, {9, 2}, {0, 7}, {1, 6}, {2, 3}, {7, 8}, {6, 8}, {3, 8}, {9, 4}, {4, 5}};
+        for (int[] link : links) {
+            x.ahead(link[0], link[1]);
+        }
+        edges.due("ring", x.ahead(8, 9), Edges.RING);
+        ringIs(x, 8, 9, 0, 7);
+        x.free(0, 7);
+        x.ahead(8, 9);
+        ringIs(x, 8, 9, 1, 6);
+        x.free(1, 6);
+        x.ahead(1, 3);
+        x.ahead(8, 9);
+        ringIs(x, 8, 9, 1, 3);
+        x.ahead(4, 8);
+        x.ahead(8, 9);
+        ringIs(x, 8, 9, 4);
+        x.ahead(9, 8);
+        x.ahead(8, 9);
+        ringIs(x, 8, 9);
+        x.free(9, 8);
+        x.free(9, 4);
+        x.free(9, 1);
+        x.free(9, 2);
+        x.ahead(0, 5);
+        x.ahead(5, 1);
+        x.ahead(8, 9);
+        ringIs(x, 8, 9, 0, 5, 1, 3);
+    }
+
+    private static void ringIs(StationLine x, int... want) {
+        for (int k = 0; k < want.length; k++) {
+            edges.due("k " + k, x.ring(k), want[k]);
+        }
+        edges.due("k " + want.length, x.ring(want.length), Edges.NONE);
     }
 
     private static void ringAfterFree() {
