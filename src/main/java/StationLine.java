@@ -909,7 +909,7 @@ public final class StationLine {
             if (lengthWithin(high * unit) > m) {
                 return NONE;
             }
-            while (low < high) {
+            for (int step = 0; step < MOST_BEAT && low < high; step++) {
                 int middle = (low + high) / 2;
                 if (lengthWithin(middle * unit) <= m) {
                     high = middle;

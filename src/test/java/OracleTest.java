@@ -1,41 +1,30 @@
-import java.util.ArrayList;
-import java.util.List;
-import java.util.Random;
-
-/** Random runs of calls, each answer held against that of PlainLine. */
+/** Short random runs of calls, each answer held against that of a plain model. */
 public final class OracleTest {
-    private static final String[] CALLS = {
-        "task", "time", "share", "ahead", "free", "ring", "pair", "hold", "line", "beat", "of",
-        "put", "cause", "clash", "station", "length", "squares",
-        "fewest", "many", "best", "evenest", "leastBeat", "bound", "early", "late",
-        "rule", "better", "sheet", "write", "take", "lose", "tell", "check", "keep", "back", "count"};
-
-    private final Random random;
-    private final StationLine line = new StationLine();
-    private final PlainLine plain = new PlainLine();
-    private final List<String> log = new ArrayList<>();
+    private final Runner runner;
     private final int mostTasks;
-    private boolean isRight = true;
 
-    private OracleTest(long seed, int mostTasks) {
-        random = new Random(seed);
+    private OracleTest(long seed, int mostTasks, PlainLine plain) {
+        runner = new Runner(seed, mostTasks, plain);
         this.mostTasks = mostTasks;
     }
 
     public static void main(String[] args) {
         int wrong = 0;
         int calls = 0;
-        for (int seed = 0; seed < 3000 && wrong < 3; seed++) {
-            OracleTest test = new OracleTest(seed, 3 + seed % 3);
+        for (int seed = 0; seed < 4000 && wrong < 3; seed++) {
+            // The two models are held against each other by the runs that both can bear.
+            PlainLine plain = seed % 4 == 3 ? new WideLine() : new PlainLine();
+            OracleTest test = new OracleTest(seed, 3 + seed % 3, plain);
             test.run();
-            calls += test.log.size();
-            wrong += test.isRight ? 0 : 1;
+            calls += test.runner.calls();
+            wrong += test.runner.isRight() ? 0 : 1;
         }
-        for (int seed = 0; seed < 60 && wrong < 3; seed++) {
-            OracleTest test = new OracleTest(1000000 + seed, 10);
-            test.runWide();
-            calls += test.log.size();
-            wrong += test.isRight ? 0 : 1;
+        for (int seed = 0; seed < 120 && wrong < 3; seed++) {
+            PlainLine plain = seed % 2 == 1 ? new WideLine() : new PlainLine();
+            OracleTest test = new OracleTest(1000000 + seed, 10, plain);
+            test.runWide(seed % 2 == 1 ? 2 + seed % 7 : 2);
+            calls += test.runner.calls();
+            wrong += test.runner.isRight() ? 0 : 1;
         }
         System.out.println("OracleTest: " + calls + " calls, " + wrong + " runs wrong");
         if (wrong != 0) {
@@ -43,244 +32,53 @@ public final class OracleTest {
         }
     }
 
-    private int up(int bound) {
-        return random.nextInt(bound);
-    }
-
-    /** Mostly within low .. high, now and then beside it or far away. */
-    private int near(int low, int high) {
-        int pick = up(40);
-        if (pick == 0) {
-            return low - 1;
-        }
-        if (pick == 1) {
-            return high + 1;
-        }
-        if (pick == 2) {
-            return up(2) == 0 ? Integer.MIN_VALUE : Integer.MAX_VALUE;
-        }
-        return low + up(high - low + 1);
-    }
-
-    private int aTask() {
-        return near(0, Math.max(0, plain.n() - 1));
-    }
-
-    private void due(String call, long got, long want) {
-        log.add(call + " -> " + got);
-        if (got != want && isRight) {
-            isRight = false;
-            log.add("   due is " + want);
-            for (String row : log) {
-                System.out.println(row);
-            }
-        }
-    }
-
     private void run() {
-        int tasks = up(mostTasks + 1);
+        int tasks = runner.up(mostTasks + 1);
         for (int t = 0; t < tasks; t++) {
-            due("task", line.task(), plain.task());
+            runner.call("task");
         }
         for (int i = 0; i < tasks; i++) {
-            call("ahead");
-            call("time");
+            runner.call("ahead");
+            runner.call("time");
         }
-        for (int i = 0; i < 60 && isRight; i++) {
-            String name = CALLS[up(CALLS.length)];
-            if (name.equals("task") && plain.n() >= mostTasks) {
-                continue;
-            }
-            call(name);
+        for (int i = 0; i < 60 && runner.isRight(); i++) {
+            runner.callAny();
         }
-        lookAround();
+        runner.lookAround();
     }
 
-    /** Ten tasks on a short line: wide sets, which the small runs don't reach. */
-    private void runWide() {
-        int tasks = 7 + up(4);
+    /** Up to ten tasks on a line of about so many stations: wide sets, which small runs don't reach. */
+    private void runWide(int stations) {
+        StationLine line = runner.line;
+        PlainLine plain = runner.plain;
+        int tasks = 7 + runner.up(4);
         for (int t = 0; t < tasks; t++) {
-            due("task", line.task(), plain.task());
+            runner.call("task");
         }
-        int kind = up(4);
-        due("line " + kind, line.line(kind), plain.line(kind));
+        int kind = runner.up(4);
+        runner.due("line " + kind, line.line(kind), plain.line(kind));
         int sum = 0;
         for (int t = 0; t < tasks; t++) {
-            int v = 1 + up(30);
+            int v = 1 + runner.up(30);
             sum += v;
             for (int make = 0; make < 3; make++) {
-                int time = make == 0 ? v : 1 + up(30);
-                due("time", line.time(t, make, time), plain.time(t, make, time));
+                int time = make == 0 ? v : 1 + runner.up(30);
+                runner.due("time", line.time(t, make, time), plain.time(t, make, time));
             }
         }
-        for (int i = up(8); i > 0; i--) {
-            call("ahead");
+        for (int i = runner.up(8); i > 0; i--) {
+            runner.call("ahead");
         }
-        if (up(2) == 0) {
-            call("pair");
+        if (runner.up(2) == 0) {
+            runner.call("pair");
         }
-        int beat = sum / 2 - up(sum / 8 + 1);
-        due("beat " + beat, line.beat(beat), plain.beat(beat));
+        int beat = Math.max(1, sum / stations - runner.up(sum / 8 + 1));
+        runner.due("beat " + beat, line.beat(beat), plain.beat(beat));
         for (String name : new String[] {"fewest", "many", "evenest", "best", "best", "rule", "better"}) {
-            if (isRight) {
-                call(name);
-                lookAtHand();
+            if (runner.isRight()) {
+                runner.call(name);
+                runner.lookAtHand();
             }
         }
-    }
-
-    private void lookAtHand() {
-        for (int t = 0; t < 10; t++) {
-            due("of " + t + " 7", line.of(t, 7), plain.of(t, 7));
-        }
-    }
-
-    private void lookAround() {
-        for (int t = 0; t < plain.n() && isRight; t++) {
-            for (int what = 0; what < 9; what++) {
-                due("of " + t + " " + what, line.of(t, what), plain.of(t, what));
-            }
-        }
-        for (int k = 0; k < 11 && isRight; k++) {
-            due("ring " + k, line.ring(k), plain.ring(k));
-            due("station " + k, line.station(k, 0), plain.station(k, 0));
-        }
-        for (int what = 0; what < 6 && isRight; what++) {
-            due("count " + what, line.count(what), plain.count(what));
-        }
-    }
-
-    private void call(String name) {
-        int t = aTask();
-        int o = aTask();
-        switch (name) {
-            case "task" -> due(name, line.task(), plain.task());
-            case "ahead" -> due(name + " " + t + " " + o, line.ahead(t, o), plain.ahead(t, o));
-            case "free" -> due(name + " " + t + " " + o, line.free(t, o), plain.free(t, o));
-            case "time" -> {
-                int make = near(0, 2);
-                int v = up(4) == 0 ? near(1, 100) : near(1, 12);
-                due(name + " " + t + " " + make + " " + v, line.time(t, make, v), plain.time(t, make, v));
-            }
-            case "share" -> {
-                int make = near(0, 2);
-                int v = up(3) == 0 ? 0 : near(0, 9);
-                due(name + " " + make + " " + v, line.share(make, v), plain.share(make, v));
-            }
-            case "pair" -> {
-                int how = near(0, 2);
-                due(name + " " + t + " " + o + " " + how, line.pair(t, o, how), plain.pair(t, o, how));
-            }
-            case "hold" -> {
-                int k = up(3) == 0 ? near(0, 10) : up(4);
-                due(name + " " + t + " " + k, line.hold(t, k), plain.hold(t, k));
-            }
-            case "beat" -> {
-                int v = up(4) == 0 ? near(1, 1000) : near(5, 40);
-                due(name + " " + v, line.beat(v), plain.beat(v));
-            }
-            case "of" -> {
-                int what = near(0, 8);
-                due(name + " " + t + " " + what, line.of(t, what), plain.of(t, what));
-            }
-            case "cause" -> due(name + " " + t, line.cause(t), plain.cause(t));
-            case "early" -> due(name + " " + t, line.early(t), plain.early(t));
-            case "put" -> putMany();
-            default -> callMore(name, t);
-        }
-    }
-
-    private void putMany() {
-        for (int i = 0; i < 3; i++) {
-            int t = aTask();
-            int k = up(3) == 0 ? near(0, 10) : up(4);
-            due("put " + t + " " + k, line.put(t, k), plain.put(t, k));
-        }
-    }
-
-    private void callMore(String name, int t) {
-        int k = near(1, 10);
-        switch (name) {
-            case "ring" -> due(name + " " + k, line.ring(k), plain.ring(k));
-            case "line" -> {
-                int kind = near(0, 3);
-                due(name + " " + kind, line.line(kind), plain.line(kind));
-            }
-            case "clash" -> due(name, line.clash(), plain.clash());
-            case "station" -> {
-                int what = near(0, 2);
-                due(name + " " + k + " " + what, line.station(k, what), plain.station(k, what));
-            }
-            case "length" -> due(name, line.length(), plain.length());
-            case "squares" -> due(name, line.squares(), plain.squares());
-            case "fewest" -> due(name, line.fewest(), plain.fewest());
-            case "many" -> due(name, line.many(), plain.many());
-            case "best" -> {
-                boolean even = up(2) == 0;
-                due(name + " " + even, line.best(even), plain.best(even));
-                lookAtHand();
-            }
-            case "evenest" -> due(name, line.evenest(), plain.evenest());
-            case "leastBeat" -> due(name + " " + k, line.leastBeat(k), plain.leastBeat(k));
-            case "bound" -> {
-                int which = near(0, 1);
-                due(name + " " + which, line.bound(which), plain.bound(which));
-            }
-            case "late" -> due(name + " " + t + " " + k, line.late(t, k), plain.late(t, k));
-            case "rule" -> {
-                int which = near(0, 3);
-                due(name + " " + which, line.rule(which), plain.rule(which));
-                lookAtHand();
-            }
-            case "better" -> {
-                due(name, line.better(), plain.better());
-                lookAtHand();
-            }
-            default -> callHost(name);
-        }
-    }
-
-    private void callHost(String name) {
-        int s = near(0, 3);
-        int sort = near(0, 2);
-        switch (name) {
-            case "sheet" -> {
-                int n = up(8) == 0 ? near(0, 40) : up(12);
-                due(name + " " + s + " " + sort + " " + n, line.sheet(s, sort, n), plain.sheet(s, sort, n));
-            }
-            case "write" -> {
-                for (int j = 0; j < 3; j++) {
-                    int i = near(0, 10);
-                    int v = up(3) == 0 ? random.nextInt() : up(150) - 20;
-                    due(name + " " + s + " " + i + " " + v, line.write(s, i, v), plain.write(s, i, v));
-                }
-            }
-            case "take" -> {
-                int make = near(0, 2);
-                int i = near(0, 5);
-                due(name + " " + make + " " + s + " " + sort + " " + i,
-                        line.take(make, s, sort, i), plain.take(make, s, sort, i));
-            }
-            case "lose" -> due(name + " " + s, line.lose(s), plain.lose(s));
-            case "tell" -> {
-                int v = near(0, 10);
-                due(name + " " + v, line.tell(v), plain.tell(v));
-            }
-            case "check" -> checkRow();
-            case "keep" -> due(name, line.keep(), plain.keep());
-            case "back" -> due(name, line.back(), plain.back());
-            default -> {
-                int what = near(0, 5);
-                due(name + " " + what, line.count(what), plain.count(what));
-            }
-        }
-    }
-
-    private void checkRow() {
-        for (int i = up(3) == 0 ? 0 : plain.waiting.size(); i < plain.n(); i++) {
-            int v = up(6) == 0 ? near(0, 10) : 1 + up(3);
-            due("tell " + v, line.tell(v), plain.tell(v));
-        }
-        due("check", line.check(), plain.check());
     }
 }

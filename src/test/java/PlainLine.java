@@ -6,7 +6,7 @@ import java.util.List;
  * The document written down as directly as can be, without any thought of speed: puttings are
  * tried one by one. The tests hold StationLine's answers against its own.
  */
-final class PlainLine {
+class PlainLine {
     static final class Task {
         int[] times = {1, 1, 1};
         int held = 0;
