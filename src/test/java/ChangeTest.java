@@ -6,8 +6,9 @@ import java.util.function.ToIntFunction;
 
 /**
  * One bench of four tasks, and what all calls answer of it: first as it is, then after each call
- * that changes something. What a change doesn't name must be as it was. The answers were worked
- * out by hand. Then all calls that are refused, after each of these changes.
+ * that changes something. What a change doesn't name must be as it was. Most answers were first
+ * printed by the program, and then gone through by hand, each by the document's words. Then calls
+ * that are refused, after each of these changes.
  */
 public final class ChangeTest {
     private static final String[] FIRST = {
